@@ -1,6 +1,6 @@
 import java.util.Arrays;
 
-/** Men on lifts who throw tubes up from one to the next; ../shared/DOC.md says what each call answers. */
+/** Men on lifts who hand tubes up from one to the next; ../shared/DOC.md says what each call answers. */
 public final class TubeChain {
     /** No such number. */
     public static final int NONE = -1;
@@ -60,10 +60,11 @@ public final class TubeChain {
 
     /** Nobody, no SCAFFOLD. */
     public TubeChain() {
-        Scaffold plain = new Scaffold();
-        now = new Site(plain);
-        image = new Site(plain);
-        trial = new Trial(plain);
+        Scaffold plain = new Scaffold(0);
+        Man standIn = new Man(0, 0);
+        now = new Site(plain, standIn);
+        image = new Site(plain, standIn);
+        trial = new Trial(new Site(plain, standIn), new Site(plain, standIn));
         scaffolds = new Scaffold[MOST_SCAFFOLDS];
         text = new char[MOST_TEXT];
         tapes = new Tape[MOST_TAPES];
@@ -179,7 +180,7 @@ public final class TubeChain {
         }
         // one that had a FAULT was never used, so that its object serves the next text
         if (scaffolds[scaffoldCount] == null) {
-            scaffolds[scaffoldCount] = new Scaffold();
+            scaffolds[scaffoldCount] = new Scaffold(Scaffold.KNOWN_EACH);
         }
         Scaffold next = scaffolds[scaffoldCount];
         int fault = next.compile(text, textLength);
@@ -915,11 +916,11 @@ public final class TubeChain {
         /** The one that holds; one without CLAUSES stands in for none. */
         Scaffold scaffold;
 
-        Site(Scaffold plain) {
+        /** The stand-in takes the places of those who have not come yet, so that none is ever null. */
+        Site(Scaffold plain, Man standIn) {
             scaffold = plain;
-            // stand-ins, so that no place is ever null
             for (int i = 0; i < MOST_MEN; i++) {
-                men[i] = new Man(i, 0);
+                men[i] = standIn;
             }
         }
 
@@ -1042,11 +1043,12 @@ public final class TubeChain {
             tenth += beat;
             for (int p = 0; p < lineLength; p++) {
                 int man = line[p];
-                boolean early = comes < free[man];
-                if (early || men[man].slips(held[man])) {
-                    if (!early) {
-                        held[man]++;
-                    }
+                if (comes < free[man]) {
+                    fallen++;
+                    return -10 - man;
+                }
+                if (men[man].slips(held[man])) {
+                    held[man]++;
                     fallen++;
                     return -10 - man;
                 }
@@ -1088,9 +1090,9 @@ public final class TubeChain {
         /** The numbers of those that fell, as bits. */
         int fell;
 
-        Trial(Scaffold plain) {
-            start = new Site(plain);
-            run = new Site(plain);
+        Trial(Site start, Site run) {
+            this.start = start;
+            this.run = run;
         }
 
         void startFrom(Site now) {
@@ -1178,6 +1180,7 @@ public final class TubeChain {
         private static final int TAKE_AWAY = -300;
         private static final int MOST_CLAUSES = 10;
         private static final int DEEPEST = 4;
+        /** From HELD now on to 40 and 20 more, no two share one. */
         private static final int KNOWN_EACH = 64;
         /** Above every PACE: ten CLAUSES of 99, and 8. */
         private static final int PACES = 1024;
@@ -1186,16 +1189,18 @@ public final class TubeChain {
         /** What the letters mean of the MAN that is looked at. */
         private final int[] values = new int[6];
         /** PACES reckoned before, each with all that it hangs on: orders and beats ask for the same ones often. */
-        private final long[] known = new long[MOST_MEN * MOST_MEN * KNOWN_EACH];
-        private int codeCount;
+        private final long[] known;
         private char[] text;
+        private int codeCount;
         private int length;
         private int at;
         int rise = 5;
         int rest = 3;
         int pull = 40;
 
-        Scaffold() {
+        /** How many HELD of each MAN at each place are known at once: none, if there will be no CLAUSES. */
+        Scaffold(int knownEach) {
+            known = new long[MOST_MEN * MOST_MEN * Math.max(0, knownEach)];
             text = new char[0];
         }
 
