@@ -180,6 +180,7 @@ public final class PromisesTest {
         due("row", x.row(0, 3, 9), 0);
         due("row", x.row(0, 3, 1), 9);
         due("row", x.row(0, 0, 4), 0);
+        due("row", x.row(0, 2, 0), 0);
         due("no MAN", x.row(2, 0, 1), -1);
         due("no part", x.row(0, 4, 1), -1);
         due("no part", x.row(0, -1, 10), -1);
@@ -281,8 +282,28 @@ public final class PromisesTest {
         fault("slow 1 !(m=1|!(h=9|!t<99))", 19);
         fault("slow 1 ((((m=1))))|!!!!!m=1", 23);
         fault("rise 1;rise 2;rise 3;rise 4;rise 5;rise 6;rise 7;rise 8;rise 9;rise 0;", 69);
+        fault("quick 1 ((((((m=1))))))", 12);
         due("SCAFFOLDS", x.count(1), 0);
         due("RISE", x.told(3), 5);
+        x.man(0, 0);
+        fault("rise 9;rest 9;pull 9;slow 9 m=0;x", 32);
+        due("behind a FAULT", scaffold("slow 1 m=0"), 0);
+        due("nothing is left of it: RISE", x.told(3), 5);
+        due("nothing is left of it: REST", x.told(4), 3);
+        due("nothing is left of it: PULL", x.told(5), 40);
+        due("nothing is left of it: PACE", x.of(0, 5), 9);
+        fault("slow 1 ", 7);
+        fault("slow 1", 6);
+        fault("slow 1 m", 8);
+        fault("slow", 4);
+        // what a whole SCAFFOLD is hangs on no length: a full TEXT ends too early behind its last byte
+        StringBuilder full = new StringBuilder("slow 12 m<9");
+        while (full.length() < 99) {
+            full.append(full.length() == 95 ? "|m<10" : "|m<9");
+        }
+        due("a full TEXT", scaffold(full.substring(0, 99)), 1);
+        fault(full.substring(0, 99) + "|", 100);
+        fault(full.substring(0, 99) + "(", 99);
     }
 
     private static void scaffoldHolds() {
@@ -347,10 +368,43 @@ public final class PromisesTest {
         pace("slow 1 !!m=0", 9, 8);
         pace("slow 1 m=5|m=6|m=1|m=7", 8, 9);
         pace("slow 1 m<9&m<8&m=0&m<7", 9, 8);
+        pace("quick 1 ((((m=0))))", 7, 8);
+        pace("slow 1 t>2", 8, 9);
+        pace("slow 1 v<4", 9, 8);
+        pace("slow 1 m<0|m=1", 8, 9);
+        pace("slow 1 m<9&!m<0&m=1", 8, 9);
         pace("slow 1 !(m=1|!(h=9|t<99))", 9, 8);
         pace("slow 1 !(m=1|!(h=7|t>98))", 9, 8);
         pace("slow 99 m<9;slow 99 m<9;slow 99 m<9;slow 99 m<9;slow 99 m<9;slow 99 m<9;slow 99 m<9;slow 99 m<9",
             800, 800);
+        begin(8);
+        x.man(0, 1);
+        scaffold("slow 5 h=4&t=6;slow 7 t>98&h=9;slow 9 v=2;slow 20 k=1");
+        due("HELD 0", x.of(0, 5), 8);
+        x.held(0, 64);
+        due("HELD 64", x.of(0, 5), 13);
+        x.held(0, 128);
+        due("HELD 128", x.of(0, 5), 8);
+        x.held(0, 999);
+        due("HELD 999", x.of(0, 5), 15);
+        x.held(0, 1000);
+        due("HELD 1000", x.of(0, 5), 8);
+        x.held(0, 1063);
+        due("HELD 1063", x.of(0, 5), 8);
+        x.held(0, 9999);
+        due("HELD 9999", x.of(0, 5), 15);
+        x.held(0, 30);
+        scaffold("slow 5 t=3");
+        due("t is HELD by 10", x.of(0, 5), 13);
+        begin(8);
+        scaffold("slow 9 v=2;slow 20 k=1");
+        x.image();
+        int[][] kinds = {{0, 1, 8}, {0, 2, 17}, {1, 1, 28}, {1, 2, 37}};
+        for (int[] kind : kinds) {
+            x.man(kind[0], kind[1]);
+            due("another MAN of this number", x.of(0, 5), kind[2]);
+            x.undo();
+        }
     }
 
     private static void told() {
@@ -379,6 +433,9 @@ public final class PromisesTest {
         begin(10);
         due("nobody there", x.up(7), 5);
         due("UP", x.told(1), 1);
+        scaffold("rise 0");
+        due("UP at once", x.up(7), 0);
+        due("UP", x.told(1), 2);
         begin(10);
         x.man(0, 0);
         due("a first TUBE", x.up(10), 18);
@@ -415,6 +472,8 @@ public final class PromisesTest {
         due("HELD is 1 more", x.of(0, 2), 2);
         due("FREE stays", x.of(0, 3), 18);
         due("holds again", x.up(1), 20);
+        due("UP", x.told(1), 2);
+        due("FALLEN", x.told(2), 2);
         begin(10);
         x.man(3, 0);
         x.held(0, 7);
@@ -478,6 +537,12 @@ public final class PromisesTest {
         due("none comes UP", x.on(1, 5, 0), 0);
         due("none comes UP", x.on(1, 5, 1), 0);
         begin(12);
+        scaffold("rise 0");
+        due("UP at once", x.on(3, 5, 0), 3);
+        due("UP at once", x.on(3, 5, 1), 10);
+        due("UP at once", x.on(3, 5, 2), -5);
+        due("UP at once", x.safe(3), 1);
+        begin(12);
         x.man(5, 1);
         x.man(5, 1);
         due("of several the least", x.on(8, 99, 2), 0);
@@ -529,8 +594,17 @@ public final class PromisesTest {
         x.man(5, 0);
         due("of several the least", x.best(2, 0), 1);
         due("how many", x.best(2, 1), 1);
-        due("the soonest", x.best(3, 0), 13);
+        due("most, not the soonest", x.best(3, 0), 13);
         due("how many", x.best(3, 1), 2);
+        begin(14);
+        x.man(5, 1);
+        due("as many by 7, but the soonest", x.best(3, 0), 13);
+        due("how many", x.best(3, 1), 2);
+        begin(14);
+        x.man(0, 0);
+        scaffold("slow 88 m=0");
+        due("the longest BEAT", x.best(2, 0), 99);
+        due("twenty", x.best(20, 1), 20);
         begin(14);
         x.man(0, 0);
         x.up(1);
@@ -587,6 +661,14 @@ public final class PromisesTest {
         due("none", x.order(2, -1), -5);
         due("none: the first row", x.order(2, 0), 0);
         due("none: the first row", x.order(2, 1), 1);
+        begin(16);
+        x.man(0, 0);
+        due("one TUBE", x.order(1, -1), 1);
+        scaffold("slow 88 m=0");
+        due("the longest BEAT", x.order(2, -1), 99);
+        scaffold("slow 89 m=0");
+        due("none", x.order(2, -1), -5);
+        due("none: the first row", x.order(2, 0), 0);
         begin(16);
         for (int i = 0; i < 4; i++) {
             x.man(0, 0);
@@ -749,6 +831,7 @@ public final class PromisesTest {
         x.man(0, 0);
         due("above", x.odds(20, 17, 0), 1);
         due("below", x.odds(20, 17, 1), 2);
+        due("one TUBE", x.odds(1, 1, 0), 1);
         due("sure", x.odds(17, 17, 0), 1);
         due("sure", x.odds(17, 17, 1), 1);
         due("never", x.odds(2, 1, 0), 0);
@@ -811,6 +894,16 @@ public final class PromisesTest {
         x.book(4, false);
         x.book(6, false);
         due("the first that is otherwise", x.looked(10), 3);
+        x.book(-1, true);
+        x.book(1, true);
+        due("the first", x.looked(10), 0);
+        x.book(-1, true);
+        x.book(1, false);
+        x.book(2, true);
+        x.book(3, false);
+        x.book(4, true);
+        x.book(5, false);
+        due("all as told", x.looked(10), -5);
         due("BAD", x.looked(0), -2);
         due("BAD", x.looked(100), -2);
         x.book(-1, false);
@@ -900,6 +993,18 @@ public final class PromisesTest {
             due("a new one", x.man(1, 3), 2);
             due("who has HELD none", x.of(2, 2), 0);
         }
+        x.undo();
+        x.man(5, 0);
+        x.held(2, 9);
+        x.up(99);
+        x.undo();
+        x.man(6, 0);
+        due("a new one's HELD", x.of(2, 2), 0);
+        due("a new one's FREE", x.of(2, 3), 0);
+        x.row(2, 0, 4);
+        x.undo();
+        x.man(6, 0);
+        due("a new one's ROW", x.row(2, 0, 4), 0);
         due("SCAFFOLDS stay", x.count(1), 2);
         due("THE TEXT stays", x.count(4), 1);
         due("TAPES stay", x.read(0, 2), 0);
@@ -907,6 +1012,20 @@ public final class PromisesTest {
         fault("x", 1);
         due("a third SCAFFOLD", scaffold("rise 4"), 2);
         due("RISE", x.told(3), 4);
+        begin(30);
+        x.man(3, 0);
+        x.see(17);
+        x.see(19);
+        x.book(1, false);
+        x.image();
+        x.see(-1);
+        x.see(3);
+        x.see(4);
+        x.book(-1, true);
+        x.book(0, true);
+        x.undo();
+        due("SEEN", x.who(17), 1);
+        due("the BOOK", x.looked(99), 0);
         begin(30);
         x.man(0, 0);
         x.image();
